@@ -27,33 +27,29 @@ public final class StageHost {
     /** Stands for the OP where there is no word: no word's six bits tell it. */
     private static final int NO_WORD = 64;
 
-    private final int[] givenCode;
-    private final int[] givenData;
     private final Machine machine;
 
     public StageHost() {
-        givenCode = new int[WORDS];
-        givenData = new int[WORDS];
         machine = new Machine();
-        machine.restart(givenCode, givenData);
+        machine.restart();
     }
 
     public void code(int k, int w) throws IndexOutOfBoundsException {
         if (k < 0 || k >= WORDS) {
             throw new IndexOutOfBoundsException();
         }
-        givenCode[k] = w;
+        machine.givenCode[k] = w;
     }
 
     public void data(int k, int w) throws IndexOutOfBoundsException {
         if (k < 0 || k >= WORDS) {
             throw new IndexOutOfBoundsException();
         }
-        givenData[k] = w;
+        machine.givenData[k] = w;
     }
 
     public void begin() {
-        machine.restart(givenCode, givenData);
+        machine.restart();
     }
 
     public int run(int n) throws IllegalArgumentException {
@@ -117,12 +113,14 @@ public final class StageHost {
      * ahead: its sums and what it will do are known, but shown when its cycle has come.
      */
     private static final class Machine {
-        final int[] program = new int[WORDS];
+        final int[] givenCode = new int[WORDS];
+        final int[] givenData = new int[WORDS];
         final int[] store = new int[WORDS];
         final int[] registers = new int[REGISTERS];
         final Outlet outlet = new Outlet();
         final Tally tally = new Tally();
         int cycles;
+        private final int[] program = new int[WORDS];
         private final Word word = new Word();
         private final Deed deed = new Deed();
         private final Stages stages = new Stages();
@@ -131,7 +129,7 @@ public final class StageHost {
         private boolean guessedRight;
         private boolean missed;
 
-        void restart(int[] givenCode, int[] givenData) {
+        void restart() {
             System.arraycopy(givenCode, 0, program, 0, WORDS);
             System.arraycopy(givenData, 0, store, 0, WORDS);
             Arrays.fill(registers, 0);
