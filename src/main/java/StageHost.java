@@ -527,7 +527,6 @@ public final class StageHost {
             told++;
         }
 
-
         private void heed(int what, int pc) {
             int at = pc & LAST_COUNT;
             switch (what) {

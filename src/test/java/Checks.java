@@ -10,19 +10,48 @@ final class Checks {
         void happen();
     }
 
+    /** Of one sentence: a fault that many answers show does not hide the other sentences. */
+    private static final int MOST_PRINTED = 20;
+
     private static int made = 0;
     private static int wrong = 0;
+    private static int sentences = 0;
+    private static String sentence = "";
+    private static int printed = 0;
 
     private Checks() {
+    }
+
+    /** Looks at a sentence of the document by a test of its own, which no fault in another one ends. */
+    static void sentence(String words, Deed test) {
+        sentences++;
+        sentence = "\"" + words + "\": ";
+        printed = 0;
+        int before = made;
+        try {
+            test.happen();
+        } catch (RuntimeException e) {
+            tellWrong("a call threw " + e);
+        }
+        // A test that looks at nothing would hold whatever the class does.
+        if (made == before) {
+            tellWrong("no answer was looked at");
+        }
+        sentence = "";
+    }
+
+    private static void tellWrong(String what) {
+        wrong++;
+        printed++;
+        if (printed <= MOST_PRINTED) {
+            System.out.println(sentence + what);
+        }
     }
 
     static void due(String what, long got, long want) {
         made++;
         if (got != want) {
-            wrong++;
-            if (wrong <= 40) {
-                System.out.println(what + " answered " + got + ", due is " + want);
-            }
+            tellWrong(what + " answered " + got + ", due is " + want);
         }
     }
 
@@ -35,8 +64,7 @@ final class Checks {
         }
         made++;
         if (!got.equals(want.getName())) {
-            wrong++;
-            System.out.println(what + " threw " + got + ", due is " + want.getName());
+            tellWrong(what + " threw " + got + ", due is " + want.getName());
         }
     }
 
@@ -48,7 +76,8 @@ final class Checks {
     }
 
     static void end() {
-        System.out.println(made + " answers looked at, " + wrong + " not as due");
+        String of = sentences == 0 ? "" : " for " + sentences + " sentences";
+        System.out.println(made + " answers looked at" + of + ", " + wrong + " not as due");
         if (wrong != 0 || made == 0) {
             System.exit(1);
         }

@@ -3,6 +3,8 @@ import java.util.ArrayList;
 import java.util.HashMap;
 import java.util.List;
 import java.util.Map;
+import java.util.Set;
+import java.util.TreeSet;
 
 /**
  * The document's sums, written out as slowly and plainly as it tells them: every instruction that
@@ -10,6 +12,11 @@ import java.util.Map;
  * thought with the class under test but the document.
  */
 final class Model {
+    // A comparison makes some 330 calls at most: an object is used for no more than 512.
+    private static final int LOW_WORDS = 160;
+    private static final int MOST_FAR_WORDS = 40;
+    private static final int MOST_OUTPUTS = 100;
+
     /** One instruction that is done. */
     static final class Done {
         int pc;
@@ -72,6 +79,11 @@ final class Model {
     /** Up to where this model knows what is due. */
     long lastCycle() {
         return all.get(all.size() - 1).ending != 0 ? Long.MAX_VALUE : all.get(all.size() - 1).memory - 1;
+    }
+
+    /** What run() answers that ends behind so many cycles. */
+    int endingBehind(long cycles) {
+        return last().write <= cycles ? last().ending : 0;
     }
 
     private Done cut(int pc) {
@@ -249,7 +261,7 @@ final class Model {
         now.write = now.memoryEnd + 1;
     }
 
-    /** Compares every answer of the host with what is due behind so many cycles. */
+    /** Compares the answers of the host with what is due behind so many cycles. */
     void compare(String run, StageHost host, long asked) {
         long cycles = asked;
         Done end = last();
@@ -294,13 +306,29 @@ final class Model {
         for (int k = 0; k < 16; k++) {
             Checks.due(at + "register(" + k + ")", host.register(k), registers[k]);
         }
-        for (int k = 0; k < 1024; k++) {
+        for (int k : watched()) {
             Checks.due(at + "memory(" + k + ")", host.memory(k), words[k]);
         }
         for (int k = 0; k < Math.min(1000, out.size()); k++) {
-            Checks.due(at + "output(" + k + ")", host.output(k), out.get(k));
+            if (k < MOST_OUTPUTS / 2 || k >= out.size() - MOST_OUTPUTS / 2) {
+                Checks.due(at + "output(" + k + ")", host.output(k), out.get(k));
+            }
         }
         int none = Math.min(1000, out.size());
         Checks.dueThrow(at + "output(" + none + ")", IndexOutOfBoundsException.class, () -> host.output(none));
+    }
+
+    /** The words of DATA to look at: the low ones, and some of the far ones that are ever stored. */
+    private Set<Integer> watched() {
+        Set<Integer> watched = new TreeSet<>();
+        for (int k = 0; k < LOW_WORDS; k++) {
+            watched.add(k);
+        }
+        for (Done one : all) {
+            if (one.op == 33 && one.ending == 0 && watched.size() < LOW_WORDS + MOST_FAR_WORDS) {
+                watched.add(one.word);
+            }
+        }
+        return watched;
     }
 }

@@ -4,6 +4,7 @@ import java.util.Random;
 public final class RandomProgramsTest {
     private static final int PROGRAMS = 3000;
     private static final int MOST_INSTRUCTIONS = 400;
+    private static final int PIECES = 9;
 
     private final Random random;
     private final int[] code = new int[1024];
@@ -61,51 +62,72 @@ public final class RandomProgramsTest {
         for (int k = 0; k < length; k++) {
             code[k] = next(k);
         }
-        for (int k = length; k < 1024; k++) {
-            code[k] = random.nextInt(50) == 0 ? Words.END : 0;
+        for (int k = 0; k < 8; k++) {
+            code[length + random.nextInt(1024 - length)] = Words.END;
         }
-        for (int k = 0; k < 1024; k++) {
-            data[k] = random.nextInt(3) == 0 ? random.nextInt() : random.nextInt(100);
+        for (int k = 0; k < 60; k++) {
+            data[random.nextInt(160)] = random.nextInt(3) == 0 ? random.nextInt() : random.nextInt(100);
         }
     }
 
-    private void give(StageHost host) {
+    /** Every now and then it has done something already when it begins. */
+    private StageHost begun() {
+        StageHost host = new StageHost();
         for (int k = 0; k < 1024; k++) {
-            host.code(k, code[k]);
-            host.data(k, data[k]);
+            if (code[k] != 0) {
+                host.code(k, code[k]);
+            }
+            if (data[k] != 0) {
+                host.data(k, data[k]);
+            }
         }
         host.begin();
+        if (random.nextInt(3) == 0) {
+            host.run(random.nextInt(300));
+            host.begin();
+        }
+        return host;
     }
 
-    private int compare(int seed, StageHost host) {
+    private int[] pieces(long lastCycle) {
+        int[] pieces = new int[PIECES];
+        long left = lastCycle;
+        for (int k = 0; k < PIECES; k++) {
+            int most = k < 5 ? random.nextInt(6) : k < PIECES - 1 ? random.nextInt(300) : 50000;
+            // The last piece goes as far as the model knows, or well behind any end.
+            pieces[k] = (int) Math.min(most, left);
+            left -= pieces[k];
+        }
+        return pieces;
+    }
+
+    /** A new object for each number of pieces, so that none is used for more than 512 calls. */
+    private int compare(int seed) {
         fill();
         Model model = new Model(code, data, MOST_INSTRUCTIONS);
-        give(host);
+        int[] pieces = pieces(model.lastCycle());
         String run = "program " + seed;
-        long cycles = 0;
-        model.compare(run, host, cycles);
-        for (int piece = 0; piece < 9; piece++) {
-            long left = model.lastCycle() - cycles;
-            // The last piece goes as far as the model knows, or well behind any end.
-            int n = (int) Math.min(piece < 5 ? random.nextInt(6) : piece < 8 ? random.nextInt(300) : 50000, left);
-            cycles += n;
-            int answer = host.run(n);
-            Checks.due(run + ", run(" + n + ")", answer, host.count(0));
+        int done = 0;
+        for (int count = 0; count <= PIECES; count++) {
+            StageHost host = begun();
+            long cycles = 0;
+            for (int k = 0; k < count; k++) {
+                cycles += pieces[k];
+                int answer = host.run(pieces[k]);
+                Checks.due(run + ", run(" + pieces[k] + ")", answer, model.endingBehind(cycles));
+            }
             model.compare(run, host, cycles);
+            done = host.count(2);
         }
-        return host.count(2);
+        return done;
     }
 
     public static void main(String[] args) {
         long instructions = 0;
-        StageHost host = null;
         for (int seed = 0; seed < PROGRAMS; seed++) {
-            if (seed % 5 == 0) {
-                host = new StageHost();
-            }
-            instructions += new RandomProgramsTest(seed).compare(seed, host);
+            instructions += new RandomProgramsTest(seed).compare(seed);
         }
-        System.out.println(instructions + " instructions done by the host and compared");
+        System.out.println(instructions + " instructions done to the last piece and compared");
         Checks.end();
     }
 }
